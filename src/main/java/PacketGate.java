@@ -86,7 +86,7 @@ public final class PacketGate {
 
     public PacketGate() {
         line = new Line();
-        reader = new RuleReader(line);
+        reader = new RuleReader();
         rules = new RuleBook();
         ruleLine = new Line();
         exposures = new Exposures();
@@ -122,7 +122,7 @@ public final class PacketGate {
     }
 
     private int installLine() {
-        if (!reader.read(rules.spare())) {
+        if (!reader.read(line, rules.spare())) {
             badPlace = reader.place;
             return SYNTAX;
         }
@@ -486,40 +486,38 @@ public final class PacketGate {
         }
     }
 
-    /** Reads the line from left to right; where it can't go on, its place is the bad place. */
+    /** Reads a line from left to right; where it can't go on, its place is the bad place. */
     private static final class RuleReader {
         private static final int MOST_DIGITS = 3;
 
-        private final Line line;
         int place;
 
-        RuleReader(Line line) {
-            this.line = line;
+        RuleReader() {
             place = 0;
         }
 
-        boolean read(Rule rule) {
+        boolean read(Line line, Rule rule) {
             place = 0;
-            return readLetters(rule)
-                    && readRange(rule, Rule.SOURCE) && readMark(',')
-                    && readRange(rule, Rule.TARGET) && readMark(',')
-                    && readRange(rule, Rule.TARGET_PORT) && place == line.length;
+            return readLetters(line, rule)
+                    && readRange(line, rule, Rule.SOURCE) && readMark(line, ',')
+                    && readRange(line, rule, Rule.TARGET) && readMark(line, ',')
+                    && readRange(line, rule, Rule.TARGET_PORT) && place == line.length;
         }
 
-        private boolean readLetters(Rule rule) {
-            rule.action = readOneOf(ACTION_LETTERS);
+        private boolean readLetters(Line line, Rule rule) {
+            rule.action = readOneOf(line, ACTION_LETTERS);
             if (rule.action == NONE) {
                 return false;
             }
-            rule.direction = readOneOf(DIRECTION_LETTERS);
+            rule.direction = readOneOf(line, DIRECTION_LETTERS);
             if (rule.direction == NONE) {
                 return false;
             }
-            rule.protocol = readOneOf(PROTOCOL_LETTERS);
+            rule.protocol = readOneOf(line, PROTOCOL_LETTERS);
             return rule.protocol != NONE;
         }
 
-        private int readOneOf(String letters) {
+        private int readOneOf(Line line, String letters) {
             int found = letters.indexOf(line.at(place));
             if (found != NONE) {
                 place++;
@@ -527,7 +525,7 @@ public final class PacketGate {
             return found;
         }
 
-        private boolean readMark(char mark) {
+        private boolean readMark(Line line, char mark) {
             if (line.at(place) != mark) {
                 return false;
             }
@@ -535,16 +533,16 @@ public final class PacketGate {
             return true;
         }
 
-        private boolean readRange(Rule rule, int which) {
-            if (readMark('*')) {
+        private boolean readRange(Line line, Rule rule, int which) {
+            if (readMark(line, '*')) {
                 rule.setRange(which, 0, GREATEST_BYTE);
                 return true;
             }
-            int low = readNumber(0);
+            int low = readNumber(line, 0);
             if (low == NONE) {
                 return false;
             }
-            int high = readMark('-') ? readNumber(low) : low;
+            int high = readMark(line, '-') ? readNumber(line, low) : low;
             if (high == NONE) {
                 return false;
             }
@@ -553,7 +551,7 @@ public final class PacketGate {
         }
 
         /** A number that isn't below the least one, or NONE. */
-        private int readNumber(int least) {
+        private int readNumber(Line line, int least) {
             int number = 0;
             int digits = 0;
             while (place < line.length && isDigit(line.at(place))) {

@@ -5,6 +5,7 @@ public final class HideTest {
         checkRefused(check);
         checkFlowsEnd(check);
         checkEachCanBeHidden(check);
+        checkAllFlowsEnd(check);
         check.end();
     }
 
@@ -43,6 +44,17 @@ public final class HideTest {
         check.due("a new flow from there", Check.out(gate, 1, 0, 4, 4, 153, 1), PacketGate.PASSED);
         check.due("has a mapping made for it", gate.emission(1), 101);
         check.due("hide answers no packet", gate.count(4), 6);
+    }
+
+    private static void checkAllFlowsEnd(Check check) {
+        PacketGate gate = Check.gate("Pi**,*,*");
+        gate.expose(1, 10, 4, 4);
+        for (int port = 0; port < 16; port++) {
+            Check.in(gate, 1, 0, 150, port, 10);
+        }
+        check.due("flows", gate.count(1), 16);
+        check.due("hide(1, 10)", gate.hide(1, 10), PacketGate.PASSED);
+        check.due("flows afterwards", gate.count(1), 0);
     }
 
     private static void checkEachCanBeHidden(Check check) {

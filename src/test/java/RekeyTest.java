@@ -6,6 +6,7 @@ public final class RekeyTest {
         checkBefore(check);
         checkEnd(check);
         checkManyTimes(check);
+        checkNothingIsLeftOfOldOnes(check);
         check.end();
     }
 
@@ -61,6 +62,21 @@ public final class RekeyTest {
         check.due("2 at its END", gate.unseal(2, 3, true, 1, 0), PacketGate.UNKNOWN);
         gate.tick(100);
         check.due("3 long afterwards", gate.unseal(3, 1, true, 1, 0), PacketGate.PASSED);
+    }
+
+    private static void checkNothingIsLeftOfOldOnes(Check check) {
+        PacketGate gate = sealing();
+        for (int number = 1; number <= 5; number++) {
+            check.due("SEQUENCE of " + number, gate.count(8), 0);
+            check.due("TOP of " + number, gate.count(9), 0);
+            gate.header(250, 9, 4, 5);
+            check.due("1 under " + number, gate.unseal(number, 1, true, 1, 0), PacketGate.PASSED);
+            check.due("70 under " + number, gate.unseal(number, 70, true, 1, 0), PacketGate.PASSED);
+            gate.header(4, 5, 150, 9);
+            check.due("a seal under " + number, gate.outward(1, 0), PacketGate.SEALED);
+            check.dueEmission("a seal under " + number, gate, 200, number, 250, 1);
+            gate.rekey();
+        }
     }
 
     private static void checkManyTimes(Check check) {

@@ -23,6 +23,8 @@ public final class StatesTest {
             }
         }
         test.checkClosingWithTheAnswer();
+        test.checkTrafficWhileHalfClosed(true);
+        test.checkTrafficWhileHalfClosed(false);
         test.check.end();
     }
 
@@ -121,6 +123,18 @@ public final class StatesTest {
             packet(gate, openedInside, protocol, flags);
             check.due("two-sided it stays", gate.flow(0, 0), 7);
         }
+    }
+
+    private void checkTrafficWhileHalfClosed(boolean closedByOpener) {
+        PacketGate gate = brought(true, closedByOpener, 4);
+        packet(gate, !closedByOpener, 0, ACK);
+        packet(gate, closedByOpener, 0, ACK);
+        packet(gate, !closedByOpener, 0, 0);
+        check.due("traffic without FIN", gate.flow(0, 0), 4);
+        packet(gate, closedByOpener, 0, FIN);
+        check.due("FIN of the side that has closed", gate.flow(0, 0), 4);
+        packet(gate, !closedByOpener, 0, FIN | ACK);
+        check.due("FIN of the side that has not", gate.flow(0, 0), 5);
     }
 
     private void checkClosingWithTheAnswer() {

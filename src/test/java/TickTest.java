@@ -10,6 +10,7 @@ public final class TickTest {
         }
         checkLastIsRenewed(check);
         checkOrderStays(check);
+        checkSixteenFlowsEnd(check);
         check.end();
     }
 
@@ -79,6 +80,18 @@ public final class TickTest {
         check.due("a bad packet", gate.outward(0, 2), PacketGate.STATE);
         gate.tick(1);
         check.due("renews nothing", gate.count(1), 0);
+    }
+
+    private static void checkSixteenFlowsEnd(Check check) {
+        PacketGate gate = Check.gate("Po**,*,*");
+        for (int port = 0; port < 16; port++) {
+            Check.out(gate, 1, 0, 5, 5, 150, port);
+        }
+        check.due("a 17th", Check.out(gate, 1, 0, 5, 5, 150, 16), PacketGate.NO_ROOM);
+        gate.tick(10);
+        check.due("flows", gate.count(1), 0);
+        check.due("mappings", gate.count(3), 0);
+        check.due("there is room again", gate.outward(1, 0), PacketGate.PASSED);
     }
 
     private static void checkOrderStays(Check check) {
