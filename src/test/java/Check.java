@@ -1,77 +1,85 @@
-/** Compares answers with those that are due, and ends a test with exit code 1 if one was wrong. */
+/**
+ * Compares answers with those that are due, sentence by sentence of a section of the document, and ends a
+ * test with exit code 1 if one was wrong.
+ */
 final class Check {
+    /** The test of one sentence. */
+    interface Case {
+        void run(Check check);
+    }
+
     private static final int MOST_PRINTED = 20;
 
-    private int calls = 0;
+    private final String section;
+    private String sentence = "";
+    private int sentences = 0;
+    private int answers = 0;
     private int wrong = 0;
 
+    Check(String section) {
+        this.section = section;
+    }
+
+    /** Runs the test of a sentence, which is named by the document's own words. */
+    void sentence(String words, Case test) {
+        sentence = words;
+        sentences++;
+        holds("these words stand there", Document.says(section, words));
+        int before = answers;
+        test.run(this);
+        holds("something was compared", answers > before);
+        sentence = "";
+    }
+
     void due(String call, long got, long want) {
-        calls++;
+        answers++;
         if (got != want) {
-            wrong++;
-            if (wrong <= MOST_PRINTED) {
-                System.out.println(call + " answered " + got + ", due is " + want);
-            }
+            tellWrong(call + " answered " + got + ", due is " + want);
+        }
+    }
+
+    void dueText(String what, String got, String want) {
+        answers++;
+        if (!got.equals(want)) {
+            tellWrong(what + " is " + got + ", due is " + want);
         }
     }
 
     void holds(String what, boolean holds) {
-        due(what, holds ? 1 : 0, 1);
+        answers++;
+        if (!holds) {
+            tellWrong(what + ": it does not hold");
+        }
+    }
+
+    private void tellWrong(String what) {
+        wrong++;
+        if (wrong <= MOST_PRINTED) {
+            System.out.println(section + ": " + (sentence.isEmpty() ? "" : "\"" + sentence + "\": ") + what);
+        }
     }
 
     void end() {
-        System.out.println(wrong + " of " + calls + " answers are not as due");
-        if (wrong != 0 || calls == 0) {
+        System.out.println(section + ": " + sentences + " sentences, " + answers + " answers, " + wrong
+                + " not as due");
+        if (wrong != 0 || answers == 0) {
             System.exit(1);
         }
     }
 
-    /** A new gate with these lines as its rules. */
-    static PacketGate gate(String... lines) {
-        PacketGate gate = new PacketGate();
-        for (String line : lines) {
-            if (install(gate, line) < 0) {
-                throw new IllegalArgumentException("no rule: " + line);
-            }
-        }
-        return gate;
-    }
-
-    static void type(PacketGate gate, String text) {
-        for (int i = 0; i < text.length(); i++) {
-            gate.type(text.charAt(i));
+    void dueEmission(String after, PacketGate gate, int... want) {
+        for (int field = 0; field < 4; field++) {
+            due("emission(" + field + ") after " + after, gate.emission(field), want[field]);
         }
     }
 
-    static int install(PacketGate gate, String text) {
-        type(gate, text);
-        return gate.install();
-    }
-
-    static String ruleText(PacketGate gate, int n) {
-        StringBuilder text = new StringBuilder();
-        int c = gate.ruleText(n, 0);
-        while (c > 0) {
-            text.append((char) c);
-            c = gate.ruleText(n, text.length());
+    void dueFlow(PacketGate gate, int i, int... want) {
+        for (int field = 0; field < want.length; field++) {
+            due("flow(" + i + ", " + field + ")", gate.flow(i, field), want[field]);
         }
-        return text.toString();
     }
 
-    static int out(PacketGate gate, int protocol, int flags, int address, int port, int to, int toPort) {
-        gate.header(address, port, to, toPort);
-        return gate.outward(protocol, flags);
-    }
-
-    static int in(PacketGate gate, int protocol, int flags, int address, int port, int publicPort) {
-        gate.header(address, port, 200, publicPort);
-        return gate.inward(protocol, flags);
-    }
-
-    void dueEmission(String after, PacketGate gate, int from, int fromPort, int to, int toPort) {
-        due("emission(0) after " + after, gate.emission(0), from);
-        due("emission(1) after " + after, gate.emission(1), fromPort);
-        due("emission(2) after " + after, gate.emission(2), to);
-        due("emission(3) after " + after, gate.emission(3), toPort);
+    void dueRule(PacketGate gate, int n, String want) {
+        dueText("rule " + n, Gates.ruleText(gate, n), want);
     }
 }

@@ -1,9 +1,11 @@
 import java.util.Random;
 
-/** Runs of 512 calls with arguments by chance, compared with the model call by call. */
+/** Runs of up to 512 calls with arguments by chance, compared with the model call by call. */
 public final class RandomRunsTest {
-    private static final int RUNS = 1500;
-    private static final int CALLS = 512;
+    private static final int RUNS = 2400;
+    /** An object is used for 512 calls: the last choice in a run makes up to 31, a look at the end 152. */
+    private static final int CALLS = 480;
+    private static final int CALLS_BEFORE_A_LOOK = 328;
     private static final int[] FAR = {Integer.MIN_VALUE, -257, -2, -1, 256, 10000, Integer.MAX_VALUE};
     private static final int[] INSIDES = {0, 5, 7, 127};
     private static final int[] OUTSIDES = {128, 150, 199, 201, 250, 255};
@@ -12,7 +14,7 @@ public final class RandomRunsTest {
         "Sou7,250,*", "Sie250-255,*,*", "Dot0-5,128-150,*", "Die*,0007,*", "Pbu*,150-1", "Db**,199,1-255"};
     private static final int[] USUAL_FLAGS = {0, 1, 2, 3, 4, 6, 8};
 
-    private final Check check = new Check();
+    private final Check check = new Check("Runs by chance");
     private final LineOracle oracle = new LineOracle();
     private final Random random = new Random(3);
     private final int[] seen = new int[13];
@@ -35,10 +37,13 @@ public final class RandomRunsTest {
         model = new GateModel(oracle);
         int calls = 0;
         boolean wild = run % 10 == 0;
-        while (calls < CALLS) {
+        boolean looks = run % 2 == 0;
+        while (calls < (looks ? CALLS_BEFORE_A_LOOK : CALLS)) {
             calls += wild ? wildCall("run " + run) : usualCalls("run " + run);
         }
-        compareAll("run " + run);
+        if (looks) {
+            compareAll("run " + run);
+        }
     }
 
     private void same(String call, int got, int want) {
