@@ -17,11 +17,11 @@ public final class Promise04WithdrawTest {
                 Gates.install(gate, "Pot" + n + ",*,*");
             }
             check.due("withdraw(" + taken + ")", gate.withdraw(taken), 15);
+            check.due("rule 16", gate.ruleText(16, 0), PacketGate.REFUSED);
+            check.due("install behind them", Gates.install(gate, "Dbt9,9,9"), 16);
             for (int n = 1; n <= 15; n++) {
                 check.dueRule(gate, n, "Pot" + (n < taken ? n : n + 1) + ",*,*");
             }
-            check.due("rule 16", gate.ruleText(16, 0), PacketGate.REFUSED);
-            check.due("install behind them", Gates.install(gate, "Dbt9,9,9"), 16);
             check.dueRule(gate, 16, "Dbt9,9,9");
         }
     }

@@ -88,5 +88,8 @@ public final class Promise05RuleTextTest {
         text(check, "Sbe000,00,0", "Sbe0,0,0");
         text(check, "Sbe000-001,05-005,00-010", "Sbe0-1,5,0-10");
         text(check, "Sbe100,110,101-200", "Sbe100,110,101-200");
+        for (int n = 0; n <= 255; n++) {
+            text(check, String.format("Sbe%03d,%02d,%d", n, n, n), "Sbe" + n + "," + n + "," + n);
+        }
     }
 }

@@ -103,18 +103,23 @@ public final class Promise12UnsealTest {
     }
 
     private static void wasAccepted(Check check) {
-        int[] steps = {1, 2, 30, 31, 32, 33, 63, 64, 65, 96, 1000};
+        int[] steps = {1, 2, 30, 31, 32, 33, 34, 63, 64, 65, 96, 1000, 9899};
+        Set<Integer> first = new HashSet<>(Set.of(100, 99, 97, 85, 70, 69));
         for (int step : steps) {
             PacketGate gate = Gates.sealing();
-            check.due("100", Gates.unseal(gate, 1, 100), PacketGate.PASSED);
-            check.due("100 again", Gates.unseal(gate, 1, 100), PacketGate.REPLAY);
+            Gates.unseal(gate, 1, 100);
+            for (int sequence : first) {
+                check.due(sequence + " at first", Gates.unseal(gate, 1, sequence),
+                        sequence == 100 ? PacketGate.REPLAY : PacketGate.PASSED);
+            }
             int top = 100 + step;
-            check.due(top + " after 100", Gates.unseal(gate, 1, top), PacketGate.PASSED);
+            check.due(top + " when TOP is 100", Gates.unseal(gate, 1, top), PacketGate.PASSED);
             check.due(top + " again", Gates.unseal(gate, 1, top), PacketGate.REPLAY);
             check.due("100 when TOP is " + top, Gates.unseal(gate, 1, 100), PacketGate.REPLAY);
             for (int sequence = top - 31; sequence < top; sequence++) {
                 check.due(sequence + " when TOP is " + top, Gates.unseal(gate, 1, sequence),
-                        sequence == 100 ? PacketGate.REPLAY : PacketGate.PASSED);
+                        first.contains(sequence) ? PacketGate.REPLAY : PacketGate.PASSED);
+                check.due(sequence + " again", Gates.unseal(gate, 1, sequence), PacketGate.REPLAY);
             }
         }
     }
@@ -126,7 +131,7 @@ public final class Promise12UnsealTest {
             Set<Integer> accepted = new HashSet<>();
             int top = 0;
             for (int n = 0; n < 250; n++) {
-                int sequence = Math.max(1, Math.min(9999, top + random.nextInt(90) - 60));
+                int sequence = Math.max(1, Math.min(9999, top + step(random)));
                 boolean replay = sequence <= top - 32 || accepted.contains(sequence);
                 check.due("run " + run + " sequence " + sequence + " at TOP " + top, Gates.unseal(gate, 1, sequence),
                         replay ? PacketGate.REPLAY : PacketGate.PASSED);
@@ -135,6 +140,11 @@ public final class Promise12UnsealTest {
                 check.due("TOP", gate.count(9), top);
             }
         }
+    }
+
+    /** Mostly back into the window, now and then far enough to leave it behind. */
+    private static int step(Random random) {
+        return random.nextInt(12) == 0 ? 28 + random.nextInt(10) : random.nextInt(50) - 40;
     }
 
     private static void forged(Check check) {

@@ -144,7 +144,8 @@ public final class RandomRunsTest {
         boolean martian = random.nextInt(20) == 0;
         header(run, martian ? pick(200, 5) : pick(OUTSIDES), random.nextInt(3), pick(INSIDES), random.nextInt(3));
         int number = random.nextInt(10) == 0 ? below(4) : model.count(7) - random.nextInt(2);
-        int sequence = random.nextInt(20) == 0 ? below(10001) : Math.max(1, model.count(9) + random.nextInt(60) - 40);
+        int step = random.nextInt(10) == 0 ? 28 + random.nextInt(10) : random.nextInt(60) - 40;
+        int sequence = random.nextInt(40) == 0 ? below(10001) : Math.max(1, model.count(9) + step);
         boolean authentic = random.nextInt(5) > 0;
         int protocol = protocol();
         int flags = flags();
