@@ -13,6 +13,8 @@ public final class RoomTest {
     private static final int MOST_CELLS = 1000;
     private static final int CALLS = 512;
     private static final int GATES = 200;
+    /** Bytes: fewer than these for each gate mean that there are gates for which no object was made. */
+    private static final int LEAST_OBJECT = 16;
 
     private int objects;
     private int cells;
@@ -75,7 +77,7 @@ public final class RoomTest {
         }
     }
 
-    /** The virtual machine counts the bytes that a thread takes; less than one a call is no object a call. */
+    /** The virtual machine counts the bytes that a thread takes, some of them for the counting itself. */
     private static void checkMadeByCalls(Check check) {
         com.sun.management.ThreadMXBean counter =
                 (com.sun.management.ThreadMXBean) ManagementFactory.getThreadMXBean();
@@ -89,7 +91,7 @@ public final class RoomTest {
             useUp(gate);
         }
         long taken = counter.getCurrentThreadAllocatedBytes() - before;
-        check.holds(taken + " bytes taken by " + GATES * CALLS + " calls", taken < GATES * CALLS);
+        check.holds(taken + " bytes taken by " + GATES * CALLS + " calls", taken < GATES * LEAST_OBJECT);
     }
 
     /** Makes 512 calls, all kinds among them: a rule, exposures, flows of all protocols, seals, bad lines. */
